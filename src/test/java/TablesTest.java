@@ -109,6 +109,8 @@ public final class TablesTest {
         due.is("year of 2, another name", x.numberOf(2, 3), 1);
         due.is("year of 3, had one and has none", x.numberOf(3, 3), 1);
         due.is("year of 4", x.numberOf(4, 3), 0);
+        due.is("users of 3, which has no name now", x.numberOf(3, 1), 0);
+        due.is("users of all", x.count(1), 3);
         due.is("no name was lost by it", x.count(7), 1);
         due.is("no name was got by it", x.count(6), 4);
         due.is("compact(0) again", x.compact(0), 0);

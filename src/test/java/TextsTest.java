@@ -181,6 +181,10 @@ public final class TextsTest {
         x.clearText();
         due.is("play() of none", x.play(), 0);
         due.is("a change", x.count(9), 2);
+        Due.write(x, "+abcdef;+bcdefg;");
+        due.is("play() with 6 letters", x.play(), 2);
+        due.is("find abcdef", x.find(Due.name("abcdef")), 1);
+        due.is("find bcdefg", x.find(Due.name("bcdefg")), 2);
     }
 
     private static void playWithFault() {

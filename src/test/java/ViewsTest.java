@@ -67,6 +67,7 @@ public final class ViewsTest {
             int max = Integer.MAX_VALUE;
             due.is("nameAt(" + rule + ", max)", x.nameAt(rule, max), Due.NOT_FOUND);
         }
+        due.is("nameAt(0, 0) is at 0", Due.rolls("b", "a").nameAt(0, 0), Due.name("b"));
         due.is("nameAt(3, 0)", x.nameAt(3, 0), Due.INVALID);
         due.is("nameAt(-1, 99)", x.nameAt(-1, 99), Due.INVALID);
         due.is("nameAt(0, 0) of nothing", new NameRolls().nameAt(0, 0), Due.NOT_FOUND);
@@ -82,6 +83,7 @@ public final class ViewsTest {
         due.is("beginning abcdeg", x.beginning(Due.name("abcdeg")), 0);
         due.is("beginning b", x.beginning(Due.name("b")), 3);
         due.is("beginning c", x.beginning(Due.name("c")), 0);
+        due.is("beginning z, at 0", Due.rolls("zz", "a").beginning(Due.name("z")), 1);
         x.release(0);
         due.is("beginning a without a", x.beginning(Due.name("a")), 4);
         due.is("beginning(27)", x.beginning(27), Due.INVALID);
