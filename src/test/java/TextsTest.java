@@ -44,81 +44,65 @@ public final class TextsTest {
         due.is("clearing is no change", x.count(9), 0);
     }
 
-    private static void fault(NameRolls x, String text, int position, int reason, int cause) {
-        Due.write(x, text);
-        due.is("\"" + text + "\" fault(0)", x.fault(0), position);
-        due.is("\"" + text + "\" fault(1)", x.fault(1), reason);
-        due.is("\"" + text + "\" fault(2)", x.fault(2), cause);
-        due.is("\"" + text + "\" play()", x.play(), Due.NOT_POSSIBLE);
-    }
-
-    private static void noFault(NameRolls x, String text) {
-        int none = Due.NOT_FOUND;
-        Due.write(x, text);
-        for (int what = 0; what < 3; what++) {
-            due.is("\"" + text + "\" fault(" + what + ")", x.fault(what), none);
-        }
-    }
-
     private static void forms() {
         NameRolls x = Due.rolls("a");
-        fault(x, "x", 0, 1, 0);
-        fault(x, ";", 0, 1, 0);
-        fault(x, " +b;", 0, 1, 0);
-        fault(x, "+", 0, 1, 1);
-        fault(x, "-", 0, 1, 1);
-        fault(x, "=", 0, 1, 1);
-        fault(x, "!", 0, 1, 1);
-        fault(x, "+;", 0, 1, 1);
-        fault(x, "-;", 0, 1, 1);
-        fault(x, "+A;", 0, 1, 1);
-        fault(x, "+`;", 0, 1, 1);
-        fault(x, "+{;", 0, 1, 1);
-        fault(x, "+b", 0, 1, 2);
-        fault(x, "+bB;", 0, 1, 2);
-        fault(x, "+b+c;", 0, 1, 2);
-        fault(x, "+abcdefgh", 0, 1, 9);
-        fault(x, "+abcdefgh,", 0, 1, 9);
-        fault(x, "=a,0,a;", 0, 1, 1);
-        fault(x, "=/,0,a;", 0, 1, 1);
-        fault(x, "=:,0,a;", 0, 1, 1);
-        fault(x, "=0", 0, 1, 2);
-        fault(x, "=00,0,a;", 0, 1, 2);
-        fault(x, "=0;", 0, 1, 2);
-        fault(x, "=9,", 0, 1, 3);
-        fault(x, "=9,,a;", 0, 1, 3);
-        fault(x, "=9,9", 0, 1, 4);
-        fault(x, "=9,99,a;", 0, 1, 4);
-        fault(x, "=9,9,", 0, 1, 5);
-        fault(x, "=9,9,;", 0, 1, 5);
-        fault(x, "=9,9,1;", 0, 1, 5);
-        fault(x, "=9,9,abcdefg", 0, 1, 12);
-        fault(x, "!a;", 0, 1, 1);
-        fault(x, "!;", 0, 1, 1);
-        fault(x, "!9", 0, 1, 2);
-        fault(x, "!10;", 0, 1, 2);
-        noFault(x, "");
-        noFault(x, "+zzzzzz;");
-        noFault(x, "-a;");
-        noFault(x, "=0,0,a;");
-        noFault(x, "=2,5,a;");
-        noFault(x, "!0;");
-        noFault(x, "!2;");
+        due.fault(x, "x", 0, 1, 0);
+        due.fault(x, ";", 0, 1, 0);
+        due.fault(x, " +b;", 0, 1, 0);
+        due.fault(x, "+", 0, 1, 1);
+        due.fault(x, "-", 0, 1, 1);
+        due.fault(x, "=", 0, 1, 1);
+        due.fault(x, "!", 0, 1, 1);
+        due.fault(x, "+;", 0, 1, 1);
+        due.fault(x, "-;", 0, 1, 1);
+        due.fault(x, "+A;", 0, 1, 1);
+        due.fault(x, "+`;", 0, 1, 1);
+        due.fault(x, "+{;", 0, 1, 1);
+        due.fault(x, "+b", 0, 1, 2);
+        due.fault(x, "+bB;", 0, 1, 2);
+        due.fault(x, "+b+c;", 0, 1, 2);
+        due.fault(x, "+abcdefgh", 0, 1, 9);
+        due.fault(x, "+abcdefgh,", 0, 1, 9);
+        due.fault(x, "=a,0,a;", 0, 1, 1);
+        due.fault(x, "=/,0,a;", 0, 1, 1);
+        due.fault(x, "=:,0,a;", 0, 1, 1);
+        due.fault(x, "=0", 0, 1, 2);
+        due.fault(x, "=00,0,a;", 0, 1, 2);
+        due.fault(x, "=0;", 0, 1, 2);
+        due.fault(x, "=9,", 0, 1, 3);
+        due.fault(x, "=9,,a;", 0, 1, 3);
+        due.fault(x, "=9,9", 0, 1, 4);
+        due.fault(x, "=9,99,a;", 0, 1, 4);
+        due.fault(x, "=9,9,", 0, 1, 5);
+        due.fault(x, "=9,9,;", 0, 1, 5);
+        due.fault(x, "=9,9,1;", 0, 1, 5);
+        due.fault(x, "=9,9,abcdefg", 0, 1, 12);
+        due.fault(x, "!a;", 0, 1, 1);
+        due.fault(x, "!;", 0, 1, 1);
+        due.fault(x, "!9", 0, 1, 2);
+        due.fault(x, "!10;", 0, 1, 2);
+        due.noFault(x, "");
+        due.noFault(x, "+zzzzzz;");
+        due.noFault(x, "-a;");
+        due.noFault(x, "=0,0,a;");
+        due.noFault(x, "=2,5,a;");
+        due.noFault(x, "!0;");
+        due.noFault(x, "!2;");
     }
 
     private static void ranges() {
         NameRolls x = Due.rolls("a");
-        fault(x, "=3,0,a;", 0, 2, 0);
-        fault(x, "=9,9,abcdefg;", 0, 2, 0);
-        fault(x, "=2,6,a;", 0, 2, 1);
-        fault(x, "=0,9,abcdefg;", 0, 2, 1);
-        fault(x, "=0,0,abcdefg;", 0, 2, 3);
-        fault(x, "!3;", 0, 2, 2);
-        fault(x, "!9;", 0, 2, 2);
-        fault(x, "+abcdefg;", 0, 2, 3);
-        fault(x, "-abcdefg;", 0, 2, 3);
-        fault(x, "+aaaaaaaaaaaaaaaaaaaaaaaaaaaaaaaaaaaaaaaaaaaaaaaaaaaaaaaaaa;", 0, 2, 3);
-        fault(x, "=3,0,b;", 0, 2, 0);
+        due.fault(x, "=3,0,a;", 0, 2, 0);
+        due.fault(x, "=9,9,abcdefg;", 0, 2, 0);
+        due.fault(x, "=2,6,a;", 0, 2, 1);
+        due.fault(x, "=0,9,abcdefg;", 0, 2, 1);
+        due.fault(x, "=0,0,abcdefg;", 0, 2, 3);
+        due.fault(x, "!3;", 0, 2, 2);
+        due.fault(x, "!9;", 0, 2, 2);
+        due.fault(x, "+abcdefg;", 0, 2, 3);
+        due.fault(x, "-abcdefg;", 0, 2, 3);
+        due.fault(x, "+aaaaaaaaaaaaaaaaaaaaaaaaaaaaaaaaaaaaaaaaaaaaaaaaaaaaaaaaaa;", 0, 2, 3);
+        due.fault(x, "=3,0,b;", 0, 2, 0);
     }
 
     private static void notPossibleOtherwise() {
@@ -126,26 +110,26 @@ public final class TextsTest {
         x.put(0, 0, 0);
         x.release(0);
         int none = Due.NOT_FOUND;
-        fault(x, "-a;", 0, 3, none);
-        fault(x, "-c;", 0, 3, none);
-        fault(x, "=0,0,c;", 0, 3, none);
-        fault(x, "-b;-b;", 3, 3, none);
-        fault(x, "-b;=0,1,b;", 3, 3, none);
-        fault(x, "=0,0,b;=0,1,a;", 7, 3, none);
-        fault(x, "+a;-a;-a;", 6, 3, none);
-        noFault(x, "+a;-a;");
-        noFault(x, "=0,0,b;-b;");
-        noFault(x, "=0,0,a;");
+        due.fault(x, "-a;", 0, 3, none);
+        due.fault(x, "-c;", 0, 3, none);
+        due.fault(x, "=0,0,c;", 0, 3, none);
+        due.fault(x, "-b;-b;", 3, 3, none);
+        due.fault(x, "-b;=0,1,b;", 3, 3, none);
+        due.fault(x, "=0,0,b;=0,1,a;", 7, 3, none);
+        due.fault(x, "+a;-a;-a;", 6, 3, none);
+        due.noFault(x, "+a;-a;");
+        due.noFault(x, "=0,0,b;-b;");
+        due.noFault(x, "=0,0,a;");
     }
 
     private static void theFirstFault() {
         NameRolls x = Due.rolls("a");
-        fault(x, "+b;-c;x", 3, 3, Due.NOT_FOUND);
-        fault(x, "+b;!7;-c;", 3, 2, 2);
-        fault(x, "+b;+c;=0,0,", 6, 1, 5);
-        fault(x, "-a;-a;+", 3, 3, Due.NOT_FOUND);
-        fault(x, "+b;;", 3, 1, 0);
-        fault(x, "+b; +c;", 3, 1, 0);
+        due.fault(x, "+b;-c;x", 3, 3, Due.NOT_FOUND);
+        due.fault(x, "+b;!7;-c;", 3, 2, 2);
+        due.fault(x, "+b;+c;=0,0,", 6, 1, 5);
+        due.fault(x, "-a;-a;+", 3, 3, Due.NOT_FOUND);
+        due.fault(x, "+b;;", 3, 1, 0);
+        due.fault(x, "+b; +c;", 3, 1, 0);
         due.is("nothing was done", x.count(0), 1);
     }
 
